@@ -1,3 +1,4 @@
+import java.util.Arrays;
 import java.util.NoSuchElementException;
 
 /** A sound sequencer; ../shared/DOC.md says what each call promises. */
@@ -140,6 +141,7 @@ public final class PatternSequencer {
     }
 
     public int removeItem(int pattern, int index) throws IndexOutOfBoundsException {
+        requirePattern(pattern);
         requireItem(pattern, index);
         Song draft = timeline.draft();
         draft.patterns.dropItem(pattern, index);
@@ -155,6 +157,7 @@ public final class PatternSequencer {
     }
 
     public int item(int pattern, int index, int what) throws IndexOutOfBoundsException, IllegalArgumentException {
+        requirePattern(pattern);
         requireItem(pattern, index);
         requireRange(what, 0, THIRD);
         return timeline.current().patterns.itemNumber(pattern, index, what);
@@ -189,8 +192,7 @@ public final class PatternSequencer {
             throw new IllegalStateException("too many clips");
         }
         draft.putClip(start, pattern, times, transposition, instrument);
-        requireFitting(draft);
-        accept();
+        acceptIfFitting(draft);
         return draft.clipCount() - 1;
     }
 
@@ -252,19 +254,22 @@ public final class PatternSequencer {
     }
 
     public int note(int note, int what) throws IndexOutOfBoundsException, IllegalArgumentException {
-        requireNote(note);
+        Score worked = upToDateScore();
+        requireIndex(note, worked.noteCount());
         requireRange(what, 0, VOICE);
-        return upToDateScore().noteNumber(note, what);
+        return worked.noteNumber(note, what);
     }
 
     public boolean isCut(int note) throws IndexOutOfBoundsException {
-        requireNote(note);
-        return upToDateScore().cutterOf(note) != NONE;
+        Score worked = upToDateScore();
+        requireIndex(note, worked.noteCount());
+        return worked.cutterOf(note) != NONE;
     }
 
     public int cutBy(int note) throws IndexOutOfBoundsException, NoSuchElementException {
-        requireNote(note);
-        int cutter = upToDateScore().cutterOf(note);
+        Score worked = upToDateScore();
+        requireIndex(note, worked.noteCount());
+        int cutter = worked.cutterOf(note);
         if (cutter == NONE) {
             throw new NoSuchElementException("the note is not cut");
         }
@@ -277,10 +282,14 @@ public final class PatternSequencer {
         requireRange(tick, 0, LAST_TICK);
         requireRange(milliseconds, 1, MAX_PACE);
         Song draft = timeline.draft();
-        if (draft.tempos.placeAt(tick) == NONE && draft.tempos.placeCount() >= MAX_PLACES) {
+        int index = draft.tempos.placeAt(tick);
+        if (index != NONE) {
+            draft.tempos.putPace(index, milliseconds);
+        } else if (draft.tempos.placeCount() < MAX_PLACES) {
+            draft.tempos.addPlace(tick, milliseconds);
+        } else {
             throw new IllegalStateException("too many places");
         }
-        draft.tempos.putPlace(tick, milliseconds);
         accept();
         return draft.tempos.placeCount();
     }
@@ -386,9 +395,10 @@ public final class PatternSequencer {
     }
 
     public int level(int note, int time) throws IndexOutOfBoundsException, IllegalArgumentException {
-        requireNote(note);
+        Score worked = upToDateScore();
+        requireIndex(note, worked.noteCount());
         requireTime(time);
-        return upToDateScore().levelOf(timeline.current(), note, time);
+        return worked.levelOf(timeline.current(), note, time);
     }
 
     public int mix(int time) throws IllegalArgumentException {
@@ -413,7 +423,7 @@ public final class PatternSequencer {
     }
 
     public int polyphony() {
-        return upToDateEvents().greatestNumberAtOnce();
+        return eventsOf(upToDateScore()).greatestNumberAtOnce();
     }
 
     public int busy(int voice) throws IndexOutOfBoundsException {
@@ -422,22 +432,22 @@ public final class PatternSequencer {
     }
 
     public double lostShare() throws ArithmeticException {
-        Score score = upToDateScore();
-        int notes = score.noteCount();
+        Score worked = upToDateScore();
+        int notes = worked.noteCount();
         if (notes <= 0) {
             throw new ArithmeticException("there are no notes");
         }
-        return (double) (score.droppedCount() + score.cutCount()) / (double) notes;
+        return (double) (worked.droppedCount() + worked.cutCount()) / (double) notes;
     }
 
     // ---- events, texts, history and saving
 
     public int eventCount() {
-        return upToDateEvents().size();
+        return eventsOf(upToDateScore()).size();
     }
 
     public int event(int index, int what) throws IndexOutOfBoundsException, IllegalArgumentException {
-        Events listed = upToDateEvents();
+        Events listed = eventsOf(upToDateScore());
         if (index < 0 || index >= listed.size()) {
             throw new IndexOutOfBoundsException("no such event");
         }
@@ -457,7 +467,7 @@ public final class PatternSequencer {
 
     public int eventFrom(int time) throws IllegalArgumentException, NoSuchElementException {
         requireTime(time);
-        int found = upToDateEvents().firstFrom(time);
+        int found = eventsOf(upToDateScore()).firstFrom(time);
         if (found == NONE) {
             throw new NoSuchElementException("no event then or later");
         }
@@ -489,8 +499,7 @@ public final class PatternSequencer {
             putItem(draft, pattern, reader.number(k, KIND), reader.number(k, FIRST),
                     reader.number(k, SECOND), reader.number(k, THIRD));
         }
-        requireFitting(draft);
-        accept();
+        acceptIfFitting(draft);
         return reader.itemCount();
     }
 
@@ -543,8 +552,7 @@ public final class PatternSequencer {
     private int addOneItem(int pattern, int kind, int first, int second, int third) {
         Song draft = timeline.draft();
         putItem(draft, pattern, kind, first, second, third);
-        requireFitting(draft);
-        accept();
+        acceptIfFitting(draft);
         return draft.patterns.figure(pattern, ITEMS);
     }
 
@@ -555,10 +563,12 @@ public final class PatternSequencer {
         draft.patterns.putItem(pattern, kind, first, second, third);
     }
 
-    private static void requireFitting(Song draft) {
-        if (!draft.fits()) {
+    /** Makes the draft the present song, if it is not too great. */
+    private void acceptIfFitting(Song draft) {
+        if (!draft.patterns.measure() || !draft.hasFittingClips()) {
             throw new IllegalStateException("the change is too great");
         }
+        accept();
     }
 
     private void accept() {
@@ -574,14 +584,16 @@ public final class PatternSequencer {
     // Notes and voices are worked out only when a call asks for them: most runs change much between two questions.
     private Score upToDateScore() {
         if (!isScored) {
-            score.work(timeline.current());
+            Song song = timeline.current();
+            score.collectNotes(song);
+            score.numberNotes(song);
+            score.shareVoices(song);
             isScored = true;
         }
         return score;
     }
 
-    private Events upToDateEvents() {
-        Score worked = upToDateScore();
+    private Events eventsOf(Score worked) {
         if (!areEventsListed) {
             events.list(worked);
             areEventsListed = true;
@@ -614,7 +626,6 @@ public final class PatternSequencer {
     }
 
     private void requireItem(int pattern, int index) {
-        requirePattern(pattern);
         requireIndex(index, timeline.current().patterns.figure(pattern, ITEMS));
     }
 
@@ -622,15 +633,11 @@ public final class PatternSequencer {
         requireIndex(clip, timeline.current().clipCount());
     }
 
-    private void requireNote(int note) {
-        requireIndex(note, upToDateScore().noteCount());
-    }
-
     private void requireVoice(int voice) {
         requireIndex(voice, timeline.current().voices);
     }
 
-    // Rows are only reached through these three, so that no index goes untested.
+    // Every row is reached through a test of the index, here or in the class that holds it.
     private static int numberAt(int[] row, int index) {
         return index >= 0 && index < row.length ? row[index] : 0;
     }
@@ -657,10 +664,10 @@ public final class PatternSequencer {
         private final int[] figures = new int[PATTERNS * PATTERN_NUMBERS];
 
         void reset() {
+            Arrays.fill(figures, 0);
             for (int pattern = 0; pattern < PATTERNS; pattern++) {
-                putFigure(pattern, ITEMS, 0);
+                putFigure(pattern, DEPTH, 1);
             }
-            measure();
         }
 
         void copyFrom(Patterns other) {
@@ -669,19 +676,25 @@ public final class PatternSequencer {
         }
 
         int figure(int pattern, int what) {
-            return numberAt(figures, pattern * PATTERN_NUMBERS + what);
+            int index = pattern * PATTERN_NUMBERS + what;
+            return index >= 0 && index < figures.length ? figures[index] : 0;
         }
 
         private void putFigure(int pattern, int what, int number) {
-            putAt(figures, pattern * PATTERN_NUMBERS + what, number);
+            int index = pattern * PATTERN_NUMBERS + what;
+            if (index >= 0 && index < figures.length) {
+                figures[index] = number;
+            }
         }
 
         int slotNumber(int slot, int what) {
-            return numberAt(items, slot * ITEM_NUMBERS + what);
+            int index = slot * ITEM_NUMBERS + what;
+            return index >= 0 && index < items.length ? items[index] : 0;
         }
 
-        int itemNumber(int pattern, int index, int what) {
-            return slotNumber(pattern * MAX_ITEMS + index, what);
+        int itemNumber(int pattern, int item, int what) {
+            int index = (pattern * MAX_ITEMS + item) * ITEM_NUMBERS + what;
+            return index >= 0 && index < items.length ? items[index] : 0;
         }
 
         void putItem(int pattern, int kind, int first, int second, int third) {
@@ -719,7 +732,8 @@ public final class PatternSequencer {
             int notes = 0;
             int called = 0;
             int depth = 1;
-            for (int index = 0; index < figure(pattern, ITEMS); index++) {
+            int itemCount = figure(pattern, ITEMS);
+            for (int index = 0; index < itemCount; index++) {
                 length += lengthOf(pattern, index);
                 notes += notesOf(pattern, index);
                 if (itemNumber(pattern, index, KIND) == CALL) {
@@ -785,8 +799,9 @@ public final class PatternSequencer {
         }
 
         void write(int pattern, Line line) {
+            int itemCount = figure(pattern, ITEMS);
             line.empty();
-            for (int index = 0; index < figure(pattern, ITEMS); index++) {
+            for (int index = 0; index < itemCount; index++) {
                 if (index > 0) {
                     line.put(',');
                 }
@@ -821,8 +836,8 @@ public final class PatternSequencer {
         void reset() {
             count = 1;
             swing = 0;
-            putAt(ticks, 0, 0);
-            putAt(paces, 0, FIRST_PACE);
+            ticks[0] = 0;
+            paces[0] = FIRST_PACE;
         }
 
         void copyFrom(TempoMap other) {
@@ -837,7 +852,11 @@ public final class PatternSequencer {
         }
 
         int placeTick(int index) {
-            return numberAt(ticks, index);
+            return index >= 0 && index < ticks.length ? ticks[index] : 0;
+        }
+
+        private int placePace(int index) {
+            return index >= 0 && index < paces.length ? paces[index] : 0;
         }
 
         int placeAt(int tick) {
@@ -849,20 +868,25 @@ public final class PatternSequencer {
             return NONE;
         }
 
-        /** Sets the milliseconds from a tick on; there is a place at this tick, or room for one. */
-        void putPlace(int tick, int pace) {
-            int index = placeAt(tick);
-            if (index == NONE) {
-                index = count;
-                for (int k = count; k > 0 && placeTick(k - 1) > tick; k--) {
-                    putAt(ticks, k, placeTick(k - 1));
-                    putAt(paces, k, numberAt(paces, k - 1));
-                    index = k - 1;
-                }
-                putAt(ticks, index, tick);
-                count++;
+        void putPace(int index, int pace) {
+            if (index >= 0 && index < paces.length) {
+                paces[index] = pace;
             }
-            putAt(paces, index, pace);
+        }
+
+        void addPlace(int tick, int pace) {
+            if (count < 0 || count >= ticks.length || count >= paces.length) {
+                return;
+            }
+            int index = count;
+            while (index > 0 && ticks[index - 1] > tick) {
+                ticks[index] = ticks[index - 1];
+                paces[index] = paces[index - 1];
+                index--;
+            }
+            ticks[index] = tick;
+            paces[index] = pace;
+            count++;
         }
 
         void dropPlace(int index) {
@@ -872,23 +896,22 @@ public final class PatternSequencer {
         }
 
         int paceAt(int tick) {
-            int pace = numberAt(paces, 0);
+            int pace = placePace(0);
             for (int index = 1; index < count && placeTick(index) <= tick; index++) {
-                pace = numberAt(paces, index);
+                pace = placePace(index);
             }
             return pace;
         }
 
-        /** The tick up to which the pace of a place is kept. */
-        private int untilTick(int index) {
-            return index + 1 < count ? placeTick(index + 1) : LAST_TICK;
-        }
-
         int plainTime(int tick) {
             int time = 0;
-            for (int index = 0; index < count && placeTick(index) < tick; index++) {
-                int until = Math.min(tick, untilTick(index));
-                time += (until - placeTick(index)) * numberAt(paces, index);
+            int until = tick;
+            for (int index = count - 1; index >= 0; index--) {
+                int from = placeTick(index);
+                if (from < until) {
+                    time += (until - from) * placePace(index);
+                    until = from;
+                }
             }
             return time;
         }
@@ -903,8 +926,8 @@ public final class PatternSequencer {
             int passed = 0;
             for (int index = 0; index < count && passed <= time; index++) {
                 int from = placeTick(index);
-                int until = untilTick(index);
-                int pace = numberAt(paces, index);
+                int until = index + 1 < count ? placeTick(index + 1) : LAST_TICK;
+                int pace = placePace(index);
                 if (pace > 0) {
                     found = Math.min(until, from + (time - passed) / pace);
                 }
@@ -950,11 +973,8 @@ public final class PatternSequencer {
             rule = other.rule;
         }
 
-        /** Measures the patterns, and tells whether nothing is too great. */
-        boolean fits() {
-            if (!patterns.measure()) {
-                return false;
-            }
+        /** Whether no clip is too long and the notes are not too many, once the patterns are measured. */
+        boolean hasFittingClips() {
             int notes = 0;
             for (int clip = 0; clip < clipCount; clip++) {
                 if (clipLength(clip) > MAX_TICKS) {
@@ -970,7 +990,8 @@ public final class PatternSequencer {
         }
 
         int clipNumber(int clip, int what) {
-            return numberAt(clips, clip * CLIP_NUMBERS + what);
+            int index = clip * CLIP_NUMBERS + what;
+            return index >= 0 && index < clips.length ? clips[index] : 0;
         }
 
         int clipLength(int clip) {
@@ -1001,7 +1022,8 @@ public final class PatternSequencer {
         }
 
         int instrumentNumber(int instrument, int what) {
-            return numberAt(instruments, instrument * INSTRUMENT_NUMBERS + what);
+            int index = instrument * INSTRUMENT_NUMBERS + what;
+            return index >= 0 && index < instruments.length ? instruments[index] : 0;
         }
 
         void putInstrumentNumber(int instrument, int what, int number) {
@@ -1138,32 +1160,23 @@ public final class PatternSequencer {
         }
 
         int noteNumber(int note, int what) {
-            return numberAt(rows, note * NOTE_NUMBERS + what);
+            int index = note * NOTE_NUMBERS + what;
+            return index >= 0 && index < rows.length ? rows[index] : 0;
         }
 
         private void putNoteNumber(int note, int what, int number) {
-            putAt(rows, note * NOTE_NUMBERS + what, number);
+            int index = note * NOTE_NUMBERS + what;
+            if (index >= 0 && index < rows.length) {
+                rows[index] = number;
+            }
         }
 
         /** The note that got the voice of a note, or NONE. */
         int cutterOf(int note) {
-            return numberAt(cutters, note);
+            return note >= 0 && note < cutters.length ? cutters[note] : NONE;
         }
 
-        void work(Song song) {
-            collectNotes(song);
-            sorter.sort(keys, count);
-            for (int note = 0; note < count; note++) {
-                fillRow(song, note);
-            }
-            for (int note = 0; note < count; note++) {
-                putKey(note, turnKey(song, note));
-            }
-            sorter.sort(keys, count);
-            shareVoices(song);
-        }
-
-        private void collectNotes(Song song) {
+        void collectNotes(Song song) {
             count = 0;
             for (int clip = 0; clip < song.clipCount(); clip++) {
                 collectClip(song, clip);
@@ -1198,6 +1211,14 @@ public final class PatternSequencer {
             return index >= 0 && index < keys.length ? keys[index] : 0;
         }
 
+        /** Gives the collected notes their numbers, and all that does not hang on voices. */
+        void numberNotes(Song song) {
+            sorter.sort(keys, count);
+            for (int note = 0; note < count; note++) {
+                fillRow(song, note);
+            }
+        }
+
         private void fillRow(Song song, int note) {
             long key = keyAt(note);
             int source = numberAt(sources, (int) (key & NUMBER_MASK));
@@ -1227,16 +1248,18 @@ public final class PatternSequencer {
             return song.instrumentNumber(song.clipNumber(noteNumber(note, NOTE_CLIP), CLIP_INSTRUMENT), what);
         }
 
-        private void shareVoices(Song song) {
+        void shareVoices(Song song) {
             dropped = 0;
             cut = 0;
             lastEnd = 0;
-            for (int voice = 0; voice < MAX_VOICES; voice++) {
-                putAt(holders, voice, NONE);
+            Arrays.fill(holders, NONE);
+            Arrays.fill(cutters, NONE);
+            for (int note = 0; note < count; note++) {
+                putKey(note, turnKey(song, note));
             }
+            sorter.sort(keys, count);
             for (int turn = 0; turn < count; turn++) {
                 int note = (int) (keyAt(turn) & NUMBER_MASK);
-                putAt(cutters, note, NONE);
                 lastEnd = Math.max(lastEnd, noteNumber(note, END_TICK));
                 int voice = freeVoice(song, note);
                 if (voice == NONE) {
@@ -1265,7 +1288,9 @@ public final class PatternSequencer {
             for (int voice = 0; voice < song.voices; voice++) {
                 int holder = numberAt(holders, voice);
                 if (instrumentOf(song, holder, PRIORITY) <= priority) {
-                    int rank = stealingRank(song, holder, now);
+                    // The lower its rank, the sooner a note loses its voice.
+                    int rank = song.rule == 1 ? levelOf(song, holder, now)
+                            : song.rule == 2 ? -noteNumber(holder, PITCH) : noteNumber(holder, BEGIN_TIME);
                     if (best == NONE || rank < bestRank) {
                         best = voice;
                         bestRank = rank;
@@ -1273,17 +1298,6 @@ public final class PatternSequencer {
                 }
             }
             return best;
-        }
-
-        /** The lower, the sooner the note loses its voice. */
-        private int stealingRank(Song song, int holder, int now) {
-            if (song.rule == 1) {
-                return levelOf(song, holder, now);
-            }
-            if (song.rule == 2) {
-                return -noteNumber(holder, PITCH);
-            }
-            return noteNumber(holder, BEGIN_TIME);
         }
 
         private void giveVoice(Song song, int note, int voice) {
