@@ -95,6 +95,16 @@ public final class ComparisonTest {
         return naive.count(1);
     }
 
+    private int someCutNote() {
+        int first = random(Math.max(1, notes()));
+        for (int k = 0; k < notes(); k++) {
+            if (naive.isCut((first + k) % notes())) {
+                return (first + k) % notes();
+            }
+        }
+        return first;
+    }
+
     private int someTime() {
         if (chance(10)) {
             return between(0, 40000000);
@@ -155,7 +165,7 @@ public final class ComparisonTest {
         String name = QUESTIONS[random(QUESTIONS.length)];
         int pattern = somePattern();
         boolean isThere = pattern >= 0 && pattern < 8;
-        int note = between(0, notes() - 1);
+        int note = chance(40) ? someCutNote() : between(0, notes() - 1);
         switch (name) {
             case "pattern": call(name, pattern, between(0, 4)); break;
             case "item": call(name, pattern, between(0, isThere ? naive.pattern(pattern, 0) - 1 : 0), between(0, 3)); break;

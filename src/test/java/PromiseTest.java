@@ -294,6 +294,9 @@ public final class PromiseTest {
         refused(INDEX, () -> x.removeItem(1, 3));
         refused(INDEX, () -> x.removeItem(1, -1));
         refused(INDEX, () -> x.removeItem(0, 0));
+        // a number that, times 5, is 4 in Java's arithmetic
+        refused(INDEX, () -> x.removeItem(858993460, 0));
+        refused(INDEX, () -> x.item(858993460, 0, 0));
         due(2, x.removeItem(1, 0));
         due(1, x.item(1, 0, 0));
         due(2, x.item(1, 1, 0));
@@ -753,6 +756,9 @@ public final class PromiseTest {
         for (int[] one : ticks) {
             due(one[1], x.tickAt(one[0]));
         }
+        x.setTempo(0, 1);
+        due(2, x.tickAt(2));
+        due(3, x.tickAt(35));
         refused(ARGUMENT, () -> x.tickAt(-1));
         refused(ARGUMENT, () -> x.tickAt(LAST_TIME + 1));
     }
