@@ -1132,7 +1132,7 @@ public final class PromiseTest {
         }
     }
 
-    private static void promise38AllEventsOfManyNotes() {
+    private static PatternSequencer withManyNotes() {
         PatternSequencer x = new PatternSequencer();
         x.addNote(0, 7, 1, 9);
         x.addRest(0, 1);
@@ -1140,22 +1140,31 @@ public final class PromiseTest {
         x.addCall(2, 1, 5);
         x.addClip(9, 2, 9, 1, 3);
         x.addClip(459, 2, 3, 2, 2);
+        return x;
+    }
+
+    private static void promise38AllEventsOfManyNotes() {
+        PatternSequencer x = withManyNotes();
         due(300, x.count(1));
         due(600, x.eventCount());
-        for (int k = 0; k < 300; k++) {
-            int[] numbers = {k < 225 ? 0 : 1, 9 + 2 * k, 10 + 2 * k, k < 225 ? 8 : 9, 9, 900 + 200 * k, 1000 + 200 * k,
-                1000 + 200 * k, 0};
-            for (int what = 0; what <= 8; what++) {
-                due(numbers[what], x.note(k, what));
-            }
-            due(900 + 200 * k, x.event(2 * k, 0));
-            due(1000 + 200 * k, x.event(2 * k + 1, 0));
-            due(k, x.event(2 * k + 1, 2));
-        }
         due(30000, x.busy(0));
         due(608, x.count(8));
         refused(INDEX, () -> x.event(600, 0));
         refused(INDEX, () -> x.note(300, 0));
+        for (int from = 0; from < 300; from += 30) {
+            // an object has but 512 calls
+            PatternSequencer y = withManyNotes();
+            for (int k = from; k < from + 30; k++) {
+                int[] numbers = {k < 225 ? 0 : 1, 9 + 2 * k, 10 + 2 * k, k < 225 ? 8 : 9, 9, 900 + 200 * k,
+                    1000 + 200 * k, 1000 + 200 * k, 0};
+                for (int what = 0; what <= 8; what++) {
+                    due(numbers[what], y.note(k, what));
+                }
+                due(900 + 200 * k, y.event(2 * k, 0));
+                due(1000 + 200 * k, y.event(2 * k + 1, 0));
+                due(k, y.event(2 * k + 1, 2));
+            }
+        }
     }
 
     private static void promise39EventFrom() {
