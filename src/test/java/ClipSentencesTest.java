@@ -140,6 +140,50 @@ public final class ClipSentencesTest extends Checks {
         due(2, x.instrument(0, 5));
     }
 
+    @Sentence("Promise 11: Removes a")
+    static void theNotesOfARemovedClipDoNotSoundAnyMore() {
+        PatternSequencer x = withClips(2, 2);
+        due(3, x.sounding(200));
+        due(300, x.mix(200));
+        due(1, x.noteOn(1, 200));
+        due(400, x.busy(1));
+        due(2, x.polyphony());
+        x.removeClip(1);
+        due(1, x.sounding(200));
+        due(100, x.mix(200));
+        thrown(MISSING, x, y -> y.noteOn(1, 200));
+        due(0, x.busy(1));
+        due(1, x.polyphony());
+        due(2, x.eventCount());
+        thrown(MISSING, x, y -> y.eventFrom(401));
+        x.removeClip(0);
+        due(0, x.sounding(200));
+        due(0, x.mix(200));
+        thrown(MISSING, x, y -> y.noteOn(0, 200));
+        due(0, x.busy(0));
+        due(0, x.polyphony());
+        due(0, x.eventCount());
+        thrown(MISSING, x, y -> y.eventFrom(0));
+        thrown(ARITHMETIC, x, PatternSequencer::lostShare);
+    }
+
+    @Sentence("Promise 11: a clip; the numbers of the later ones")
+    static void aRemovedClipDoesNotMakeAChangeTooGreat() {
+        PatternSequencer notes = withMostNotes();
+        notes.removeClip(0);
+        due(2, notes.addNote(0, 1, 1, 1));
+        PatternSequencer ticks = withLongestClip();
+        ticks.removeClip(0);
+        due(3, ticks.addRest(2, 16));
+        PatternSequencer two = withMostNotes();
+        two.removeClip(0);
+        two.addClip(0, 7, 1, 0, 0);
+        two.addClip(0, 2, 3, 0, 0);
+        thrown(STATE, two, y -> y.addNote(0, 1, 1, 1));
+        two.removeClip(1);
+        due(2, two.addNote(0, 1, 1, 1));
+    }
+
     @Sentence("Promise 11: clip: the number of the clip")
     static void removeClipTakesNumbersFrom0() {
         PatternSequencer x = withMostClips();
